@@ -27,7 +27,8 @@ public final class SwapDesk {
     private final int[] payers = new int[MOST_ARCS];
     private final int[] payees = new int[MOST_ARCS];
     private final int[] states = new int[MOST_ARCS];
-    /** For each arc a stretch of MOST_PARTIES paths, by leader; an empty one is a lock that is not open. */
+    private final int[] openLocks = new int[MOST_ARCS];
+    /** For each arc a stretch of MOST_PARTIES paths, by leader: those that its open locks were opened with. */
     private final int[] keys = new int[MOST_ARCS * MOST_PARTIES];
     private int arcs;
     private boolean planned;
@@ -111,7 +112,9 @@ public final class SwapDesk {
         }
         int deeds = 0;
         for (int round = 0; round < times; round++) {
-            deeds += doAllDeeds();
+            for (int party = 0; party < parties; party++) {
+                deeds += planned && conforms(party) ? doDeeds(party) : 0;
+            }
             time++;
         }
         return deeds;
@@ -145,18 +148,19 @@ public final class SwapDesk {
         if (!isArc(arc)) {
             throw new IndexOutOfBoundsException("no such arc");
         }
-        if (Row.first(atHand) != payees[arc] || !graph.isPath(atHand) || !isLeader(Row.last(atHand))) {
+        int leader = Row.last(atHand);
+        if (Row.first(atHand) != payees[arc] || !graph.isPath(atHand) || !isLeader(leader)) {
             throw new IllegalArgumentException("no path from the payee to a leader");
         }
-        if (!planned || states[arc] != ESCROW || isUnlocked(arc, Row.last(atHand))) {
+        if (!planned || states[arc] != ESCROW || isUnlocked(arc, leader)) {
             throw new IllegalStateException("no plan, not in escrow, or the lock is open");
         }
-        if (!isInTime(atHand) || !isKnown(atHand)) {
+        if (!isInTime(atHand) || !mayShow(leader, atHand)) {
             throw new UnsupportedOperationException("too late, or another one's hashkey");
         }
-        unlock(arc, atHand);
+        unlock(arc, leader, atHand);
         atHand = Row.EMPTY;
-        return Integer.bitCount(openLocks(arc));
+        return Integer.bitCount(openLocks[arc]);
     }
 
     /** Promise 11. */
@@ -201,7 +205,7 @@ public final class SwapDesk {
         if (!isArc(arc)) {
             throw new IndexOutOfBoundsException("no such arc");
         }
-        return openLocks(arc);
+        return openLocks[arc];
     }
 
     /** Promise 16. */
@@ -259,56 +263,29 @@ public final class SwapDesk {
     }
 
     private boolean isUnlocked(int arc, int leader) {
-        return hashkey(arc, leader) != Row.EMPTY;
+        return ((openLocks[arc] >> leader) & 1) == 1;
     }
 
-    private int openLocks(int arc) {
-        int locks = 0;
-        for (int leader = 0; leader < parties; leader++) {
-            if (isUnlocked(arc, leader)) {
-                locks |= 1 << leader;
-            }
-        }
-        return locks;
-    }
-
-    private void unlock(int arc, int path) {
-        int leader = Row.last(path);
-        if (!isArc(arc) || !isParty(leader)) {
-            return;
-        }
+    private void unlock(int arc, int leader, int path) {
         keys[arc * MOST_PARTIES + leader] = path;
-        if (openLocks(arc) == leaderSet) {
+        openLocks[arc] |= 1 << leader;
+        if (openLocks[arc] == leaderSet) {
             states[arc] = PAID;
         }
     }
 
     /** Every path ever shown stays with the lock that it opened, so the locks are all there is to look through. */
-    private boolean isKnown(int path) {
+    private boolean mayShow(int leader, int path) {
         int rest = Row.rest(path);
         if (rest == Row.EMPTY) {
             return true;
         }
-        int leader = Row.last(path);
         for (int arc = 0; arc < arcs; arc++) {
             if (hashkey(arc, leader) == rest) {
                 return true;
             }
         }
         return false;
-    }
-
-    private int doAllDeeds() {
-        if (!planned) {
-            return 0;
-        }
-        int deeds = 0;
-        for (int party = 0; party < parties; party++) {
-            if (conforms(party)) {
-                deeds += doDeeds(party);
-            }
-        }
-        return deeds;
     }
 
     private int doDeeds(int party) {
@@ -330,7 +307,7 @@ public final class SwapDesk {
         if (!isLeader(party) || !isSecured(party)) {
             return 0;
         }
-        return showToAll(party, Row.withFirst(party, Row.EMPTY));
+        return showToAll(party, party, Row.withFirst(party, Row.EMPTY));
     }
 
     private int showOthers(int party) {
@@ -338,7 +315,7 @@ public final class SwapDesk {
         for (int leader = 0; leader < parties; leader++) {
             int path = isLeader(leader) ? shortestLearnt(party, leader) : Row.EMPTY;
             if (path != Row.EMPTY) {
-                deeds += showToAll(party, Row.withFirst(party, path));
+                deeds += showToAll(party, leader, Row.withFirst(party, path));
             }
         }
         return deeds;
@@ -381,15 +358,14 @@ public final class SwapDesk {
         return best;
     }
 
-    private int showToAll(int payee, int path) {
+    private int showToAll(int payee, int leader, int path) {
         if (!isInTime(path)) {
             return 0;
         }
-        int leader = Row.last(path);
         int deeds = 0;
         for (int arc = 0; arc < arcs; arc++) {
             if (payees[arc] == payee && states[arc] == ESCROW && !isUnlocked(arc, leader)) {
-                unlock(arc, path);
+                unlock(arc, leader, path);
                 deeds++;
             }
         }
@@ -432,7 +408,7 @@ public final class SwapDesk {
 
         static int size(int row) {
             int size = 0;
-            while (size < MOST_PARTIES && party(row, size) >= 0) {
+            while (size < MOST_PARTIES && row >>> (BITS * size) != 0) {
                 size++;
             }
             return size;

@@ -21,6 +21,7 @@ public final class ActTest {
         runWithoutPlan();
         runByNumber();
         runToTheEnd();
+        runFourteenArcs();
         CHECK.end();
     }
 
@@ -311,5 +312,22 @@ public final class ActTest {
         CHECK.due("and then it is", desk.run(1), 1);
         CHECK.due("state", desk.state(0), 3);
         CHECK.due("nothing more", desk.run(40), 0);
+    }
+
+    private static void runFourteenArcs() {
+        String arcs = "01 12 23 34 45 50 10 21 32 43 54 05 02 20";
+        SwapDesk desk = Desks.planned(6, 9, arcs);
+        CHECK.due("three leaders", desk.leaders(), 21);
+        CHECK.due("each arc is deployed once and opened thrice", desk.run(40), 14 + 14 * 3);
+        CHECK.tell("all paid", Desks.states(desk, 14), "22222222222222");
+        for (int party = 0; party < 6; party++) {
+            CHECK.due("deal", desk.outcome(party), 1);
+        }
+        SwapDesk failed = Desks.planned(6, 2, arcs);
+        failed.conform(5, false);
+        // Party 5 deploys nothing, so 0 and 4 show nothing of their own; the key of 2 comes to all but 5.
+        CHECK.due("12 arcs are deployed, and the lock of 2 is opened on 10", failed.run(20), 12 + 10);
+        CHECK.due("they are had back at 20", failed.run(1), 12);
+        CHECK.tell("but for those from 5", Desks.states(failed, 14), "33333033330333");
     }
 }

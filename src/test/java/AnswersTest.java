@@ -11,6 +11,7 @@ public final class AnswersTest {
         outcomeWrong();
         outcomesOfTwo();
         outcomesOfAll();
+        outcomesOneToMany();
         CHECK.end();
     }
 
@@ -139,5 +140,35 @@ public final class AnswersTest {
         CHECK.due("some to it, some from it", outcomeOfLeader(2, 1), 4);
         CHECK.due("some to it, all from it", outcomeOfLeader(1, 3), 4);
         CHECK.due("one and one", outcomeOfLeader(1, 1), 4);
+    }
+
+    private static void outcomes(SwapDesk desk, String due) {
+        StringBuilder got = new StringBuilder();
+        for (int party = 0; party < due.length(); party++) {
+            got.append(desk.outcome(party));
+        }
+        CHECK.tell("outcomes", got.toString(), due);
+    }
+
+    /** One arc to party 0 and three from it, three arcs to party 3 and one from it. */
+    private static void outcomesOneToMany() {
+        SwapDesk desk = Desks.planned(4, 9, "01 02 03 13 23 30");
+        CHECK.due("leader", desk.leaders(), 1);
+        for (int arc = 0; arc < 6; arc++) {
+            desk.deploy(arc);
+        }
+        outcomes(desk, "0000");
+        Desks.show(desk, 5, "0");
+        outcomes(desk, "2004");
+        Desks.show(desk, 3, "30");
+        outcomes(desk, "2404");
+        Desks.show(desk, 2, "30");
+        outcomes(desk, "2404");
+        Desks.show(desk, 4, "30");
+        outcomes(desk, "2441");
+        Desks.show(desk, 0, "130");
+        outcomes(desk, "2141");
+        Desks.show(desk, 1, "230");
+        outcomes(desk, "1111");
     }
 }

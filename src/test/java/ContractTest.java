@@ -180,7 +180,7 @@ public final class ContractTest {
         Desks.show(desk, 1, "0");
         Desks.show(desk, 3, "10");
         noPath(desk, 2, "2101");
-        CHECK.due("a path goes along the arcs, not against them", Desks.planned(3, 2, "01 12 20").leaders(), 1);
+        // A path goes along the arcs, not against them.
         SwapDesk round = ring();
         Desks.show(round, 2, "0");
         noPath(round, 0, "10");
@@ -220,41 +220,32 @@ public final class ContractTest {
         CHECK.dueThrow("back", Desks.STATE, () -> gone.show(2));
     }
 
-    private static void showInTime() {
-        // Span 2, D 3, begin 4: before 10, 13 and 16.
-        int[] arcs = {2, 1, 0};
-        String[] paths = {"0", "20", "120"};
-        for (int length = 0; length < 3; length++) {
-            SwapDesk desk = Desks.drawn(3, 3, "01 12 20");
-            desk.pass(4);
-            desk.plan();
-            for (int arc = 0; arc < 3; arc++) {
-                desk.deploy(arc);
-            }
-            for (int before = 0; before < length; before++) {
-                Desks.show(desk, arcs[before], paths[before]);
-            }
-            int arc = arcs[length];
-            SwapDesk late = desk;
-            desk.pass(3 * (2 + length) - 1);
-            CHECK.due("just in time, length " + length, Desks.show(late, arc, paths[length]), 1);
-            CHECK.due("paid, length " + length, desk.state(arc), 2);
+    /** Span 2, D 3, begin 4: a path of that length is next to be shown, so much after the begin. */
+    private static SwapDesk before(int length, int after) {
+        SwapDesk desk = Desks.drawn(3, 3, "01 12 20");
+        desk.pass(4);
+        desk.plan();
+        for (int arc = 0; arc < 3; arc++) {
+            desk.deploy(arc);
         }
+        for (int shorter = 0; shorter < length; shorter++) {
+            Desks.show(desk, 2 - shorter, "120".substring(2 - shorter));
+        }
+        desk.pass(after);
+        Desks.lay(desk, "120".substring(2 - length));
+        return desk;
+    }
+
+    private static void showInTime() {
         for (int length = 0; length < 3; length++) {
-            SwapDesk desk = Desks.drawn(3, 3, "01 12 20");
-            desk.pass(4);
-            desk.plan();
-            for (int arc = 0; arc < 3; arc++) {
-                desk.deploy(arc);
-            }
-            for (int before = 0; before < length; before++) {
-                Desks.show(desk, arcs[before], paths[before]);
-            }
-            int arc = arcs[length];
-            desk.pass(3 * (2 + length));
-            Desks.lay(desk, paths[length]);
-            CHECK.dueThrow("too late, length " + length, Desks.UNSUPPORTED, () -> desk.show(arc));
-            CHECK.due("not paid, length " + length, desk.state(arc), 1);
+            int arc = 2 - length;
+            int end = (2 + length) * 3;
+            SwapDesk early = before(length, end - 1);
+            CHECK.due("just in time, length " + length, early.show(arc), 1);
+            CHECK.due("paid, length " + length, early.state(arc), 2);
+            SwapDesk late = before(length, end);
+            CHECK.dueThrow("too late, length " + length, Desks.UNSUPPORTED, () -> late.show(arc));
+            CHECK.due("not paid, length " + length, late.state(arc), 1);
         }
     }
 

@@ -118,6 +118,9 @@ public final class PlanTest {
         span(5, "01 12 20 03 34 40", 4);
         span(5, "01 10 02 20 03 34 40", 3);
         span(6, "01 10 12 21 03 30 34 43 05 50", 4);
+        // The only longest path begins with the first party, and with the last one.
+        span(5, "01 10 12 23 31 34 43", 4);
+        span(5, "01 02 10 23 24 30 42", 4);
     }
 
     private static void planNotStrong() {
@@ -134,6 +137,8 @@ public final class PlanTest {
         CHECK.due("strong now", desk.plan(), 2);
         SwapDesk source = Desks.drawn(3, 2, "01 12 21");
         CHECK.dueThrow("nothing goes to 0", Desks.STATE, source::plan);
+        SwapDesk sink = Desks.drawn(3, 2, "10 12 21");
+        CHECK.dueThrow("nothing goes from 0", Desks.STATE, sink::plan);
         SwapDesk halves = Desks.drawn(4, 2, "01 10 23 32 12");
         CHECK.dueThrow("two halves, one way", Desks.STATE, halves::plan);
         halves.arc(3, 0);
