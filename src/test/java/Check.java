@@ -1,11 +1,28 @@
 /** Counts and prints the answers that are not the ones that are due. */
 final class Check {
     private final String test;
+    private String sentence = "";
+    private int checkedBefore = -1;
     private int wrong = 0;
     private int checked = 0;
 
     Check(String test) {
         this.test = test;
+    }
+
+    /** The answers that follow, up to the next sentence, are about this sentence of the document. */
+    void says(String next) {
+        endSentence();
+        sentence = " [" + next + "]";
+        checkedBefore = checked;
+    }
+
+    /** A sentence about which nothing was asked is a test that forgot to test. */
+    private void endSentence() {
+        if (checkedBefore == checked) {
+            wrong++;
+            System.out.println(test + sentence + ": nothing was asked");
+        }
     }
 
     void due(String what, long got, long want) {
@@ -20,7 +37,7 @@ final class Check {
         checked++;
         if (!got.equals(want)) {
             wrong++;
-            System.out.println(test + ": " + what + ": answered " + got + ", due is " + want);
+            System.out.println(test + sentence + ": " + what + ": answered " + got + ", due is " + want);
         }
     }
 
@@ -36,6 +53,7 @@ final class Check {
     }
 
     void end() {
+        endSentence();
         System.out.println(test + ": " + checked + " answers, " + wrong + " wrong");
         if (wrong != 0 || checked == 0) {
             System.exit(1);

@@ -76,12 +76,26 @@ public final class ModelTest {
     }
 
     private int someParty() {
-        return random.nextInt(30) == 0 ? random.nextInt(9) - 1 : random.nextInt(plain.n());
+        return random.nextInt(30) == 0 ? wrongNumber() : random.nextInt(plain.n());
     }
 
     private int someArc() {
         int count = plain.arcCount();
-        return count == 0 || random.nextInt(30) == 0 ? random.nextInt(17) - 1 : random.nextInt(count);
+        return count == 0 || random.nextInt(30) == 0 ? wrongNumber() : random.nextInt(count);
+    }
+
+    /** Mostly wrong: near the edges, the least and the greatest, or any number at all. */
+    private int wrongNumber() {
+        return switch (random.nextInt(6)) {
+            case 0 -> random.nextBoolean() ? Integer.MIN_VALUE : Integer.MAX_VALUE;
+            case 1 -> random.nextInt();
+            case 2 -> random.nextInt(6) + (1 << random.nextInt(32));
+            default -> random.nextInt(17) - 1;
+        };
+    }
+
+    private int someTimes() {
+        return random.nextInt(3) == 0 ? wrongNumber() : random.nextInt(120) - 10;
     }
 
     private void anyCall() {
@@ -91,13 +105,13 @@ public final class ModelTest {
             case 2 -> same("leaders()", desk::leaders, plain::leaders);
             case 3 -> conform(someParty(), random.nextBoolean());
             case 4 -> act(someParty());
-            case 5 -> run(random.nextInt(20) == 0 ? random.nextInt(50) - 4 : random.nextInt(3));
+            case 5 -> run(random.nextInt(20) == 0 ? someTimes() : random.nextInt(3));
             case 6 -> deploy(someArc());
             case 7, 8 -> step(someParty());
             case 9, 10 -> show(someArc());
             case 11 -> clear();
             case 12 -> back(someArc());
-            case 13 -> pass(random.nextInt(20) == 0 ? random.nextInt(120) - 10 : random.nextInt(3));
+            case 13 -> pass(random.nextInt(20) == 0 ? someTimes() : random.nextInt(3));
             default -> look();
         }
     }
@@ -141,7 +155,7 @@ public final class ModelTest {
         switch (random.nextInt(4)) {
             case 0 -> state(arc);
             case 1 -> open(arc);
-            case 2 -> key(arc, someParty(), random.nextInt(9) - 1);
+            case 2 -> key(arc, someParty(), random.nextInt(20) == 0 ? wrongNumber() : random.nextInt(9) - 1);
             default -> outcome(someParty());
         }
     }
