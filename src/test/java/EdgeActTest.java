@@ -380,6 +380,13 @@ public final class EdgeActTest {
         Desks.show(own, 1, "0");
         Desks.show(own, 0, "10");
         CHECK.due("nothing is left to do", own.act(0), 0);
+        // 0 1 0 would still be in time when 0 alone is not.
+        SwapDesk late = Desks.deployed(3, 2, "01 10 02 20");
+        Desks.show(late, 1, "0");
+        Desks.show(late, 0, "10");
+        late.pass(4);
+        CHECK.due("its own key does not go round", late.act(0), 0);
+        CHECK.due("2 0 stays shut", late.open(3), 0);
         // Of two keys the shorter one has the party in it, so the longer one is taken.
         SwapDesk longer = Desks.deployed(6, 9, "31 32 30 13 24 45 50 03 01 10");
         CHECK.due("leaders", longer.leaders(), 3);

@@ -274,6 +274,14 @@ public final class EdgeAnswersTest {
         Desks.show(desk, 0, "10");
         CHECK.due("both are paid, 0", desk.outcome(0), 1);
         CHECK.due("both are paid, 1", desk.outcome(1), 1);
+        SwapDesk full = Desks.planned(6, 9, Desks.FOURTEEN);
+        for (int party = 0; party < 6; party++) {
+            CHECK.due("14 arcs, all held", full.outcome(party), 0);
+        }
+        full.run(40);
+        for (int party = 0; party < 6; party++) {
+            CHECK.due("14 arcs, all paid", full.outcome(party), 1);
+        }
         SwapDesk part = Desks.deployed(4, 9, "01 10 12 21 23 32");
         Desks.show(part, 1, "0");
         CHECK.due("one lock of two is not paid", part.outcome(0), 0);

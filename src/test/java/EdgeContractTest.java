@@ -393,6 +393,13 @@ public final class EdgeContractTest {
         Desks.show(desk, 5, "0");
         CHECK.due("0 was shown on 3 0, and paid", Desks.show(desk, 6, "20"), 1);
         CHECK.due("and 2 0 on 1 2, not on an arc from 1", Desks.show(desk, 0, "120"), 1);
+        for (int turn = 0; turn < 14; turn++) {
+            String arcs = (Desks.FOURTEEN + " " + Desks.FOURTEEN).substring(3 * turn, 3 * turn + 41);
+            SwapDesk turned = Desks.deployed(6, 9, arcs);
+            unknown(turned, arcs.indexOf("45") / 3, "50");
+            Desks.show(turned, arcs.indexOf("50") / 3, "0");
+            CHECK.due("shown on one arc alone, of " + arcs, Desks.show(turned, arcs.indexOf("45") / 3, "50"), 1);
+        }
         SwapDesk gone = Desks.deployed(4, 9, TWO_LEAD);
         Desks.show(gone, 1, "0");
         gone.pass(53);
